@@ -2,6 +2,7 @@ import java.util.Random;
 
 /** Long runs of calls, drawn with fixed seeds, on PathCycle and on Model: the answers must be the same. */
 public final class ModelTest {
+    private static final int NONE = -1;
     private static final int CALLS = 512;
     private final Random random;
     private final PathCycle it = new PathCycle();
@@ -29,6 +30,12 @@ public final class ModelTest {
                     : new ModelTest(run, 3, run % 4 == 2 ? 3 : 2, run % 4 == 1 ? 512 : 48);
             right &= test.run(run);
         }
+        for (int seed = 1; seed <= 6; seed++) {
+            right &= new ModelTest(seed, 5, 3, 512).big(seed);
+        }
+        for (int seed = 1; seed <= 60; seed++) {
+            right &= new ModelTest(seed, 3 + seed % 3, 3, 512).searches(seed);
+        }
         System.out.println("ModelTest: " + runs + " runs of " + CALLS + " calls" + (right ? " are alike" : " differ"));
         if (!right) {
             System.exit(1);
@@ -50,6 +57,104 @@ public final class ModelTest {
             System.out.println("run " + number + ":" + calls);
         }
         return same;
+    }
+
+    /** The greatest sizes, where the model takes its time. */
+    private boolean big(int seed) {
+        int m = 1 + seed % 3;
+        int t = new int[] {24, 12, 48, 36, 30, 42}[seed % 6];
+        check("pulses", it.pulses(5, m), model.pulses(5, m), 5, m);
+        check("turn", it.turn(t), model.turn(t), t);
+        for (int i = 0; i < 3; i++) {
+            int path = random.nextInt(model.look(3));
+            check("wish", it.wish(path, true), model.wish(path, true), path);
+        }
+        for (int i = 0; i < model.look(3); i++) {
+            boolean is = i % 7 < seed;
+            check("free", it.free(i, is), model.free(i, is), i, is ? 1 : 0);
+        }
+        int[] lengths = {seed == 1 ? 8 : 2, 4, 2, seed == 1 ? 8 : seed};
+        for (int j = 0; j < 4; j++) {
+            check("counter", it.counter(j, lengths[j]), model.counter(j, lengths[j]), j, lengths[j]);
+        }
+        int chief = model.find(-1, 0, 1, 0);
+        check("wish", it.wish(chief, true), model.wish(chief, true), chief);
+        checkSearches();
+        for (int i = 0; i < 12; i++) {
+            int v = random.nextInt(t);
+            check("step", it.step(i % 6, i % 4, v), model.step(i % 6, i % 4, v), i % 6, i % 4, v);
+        }
+        tell();
+        check("leak", it.leak(NONE), model.leak(NONE), NONE);
+        check("share", it.share(1), model.share(1), 1);
+        check("worst", it.worst(20, 0), model.worst(20, 0), 20, 0);
+        check("lay", it.lay(0), model.lay(0), 0);
+        check("look", it.look(9), model.look(9), 9);
+        for (int j = 0; j < 4; j++) {
+            check("spare", it.spare(j), model.spare(j), j);
+        }
+        if (!same) {
+            System.out.println("big " + seed + ":" + calls);
+        }
+        return same;
+    }
+
+    /** WISHED and FREE so that some numbers do: those that a few steps leave, and not all of the others. */
+    private boolean searches(int seed) {
+        int n = mostPulses;
+        int m = n == 5 ? 1 + seed / 3 % 2 : 1 + seed / 3 % 3;
+        int t = new int[] {24, 12, 48, 36, 30, 42}[seed / 9 % 6];
+        check("pulses", it.pulses(n, m), model.pulses(n, m), n, m);
+        check("turn", it.turn(t), model.turn(t), t);
+        if (n == 5 && m == 2) {
+            for (int k = 2; k < 5; k++) {
+                check("kind", it.kind(k, 2), model.kind(k, 2), k, 2);
+            }
+        }
+        int[] steps = new int[5];
+        for (int k = 0; k < 5; k++) {
+            steps[k] = 1 + random.nextInt(4);
+            steps[k] = t % steps[k] == 0 ? steps[k] : 1;
+        }
+        int chief = random.nextInt(model.look(3));
+        int many = random.nextInt(100);
+        for (int path = 0; path < model.look(3); path++) {
+            boolean left = isLeft(path, chief, steps);
+            boolean wished = path == chief || left && random.nextInt(3) > 0;
+            if (wished) {
+                check("wish", it.wish(path, true), model.wish(path, true), path, 1);
+            } else if (left || random.nextInt(100) < many) {
+                check("free", it.free(path, true), model.free(path, true), path, 1);
+            }
+        }
+        checkSearches();
+        check("gradient", it.gradient(n - 2, 1), model.gradient(n - 2, 1), n - 2, 1);
+        checkSearches();
+        check("lay", it.lay(seed % 2), model.lay(seed % 2), seed % 2);
+        if (!same) {
+            System.out.println("searches " + seed + ":" + calls);
+        }
+        return same;
+    }
+
+    private boolean isLeft(int path, int chief, int[] steps) {
+        boolean left = true;
+        for (int k = 0; k < mostPulses; k++) {
+            int ahead = k == 0 ? 0 : model.order(path, k - 1) - model.order(chief, k - 1);
+            left &= (model.order(path, k) - model.order(chief, k) - ahead) % steps[k] == 0;
+        }
+        return left;
+    }
+
+    private void checkSearches() {
+        int[] fewest = model.fewestAll();
+        int[] cogs = model.cogsAll();
+        for (int k = 0; k <= 5; k++) {
+            int what = k < 5 ? k : 10;
+            boolean asked = k == 5 || k < model.look(0);
+            check("fewest", it.fewest(what), fewest == null || !asked ? NONE : fewest[k], what);
+            check("cogs", it.cogs(what), cogs == null || !asked ? NONE : cogs[k], what);
+        }
     }
 
     private void check(String call, long got, long want, int... args) {
@@ -117,7 +222,7 @@ public final class ModelTest {
             a = draw(0, model.look(0));
             b = draw(0, 3);
             int t = model.look(2);
-            c = random.nextInt(3) == 0 ? draw(0, t - 1) : t / (1 + random.nextInt(Math.min(t, 12)) ) % t;
+            c = random.nextInt(3) == 0 ? draw(0, t - 1) : t / (1 + random.nextInt(Math.min(t, 12))) % t;
             check("step", it.step(a, b, c), model.step(a, b, c), a, b, c);
         } else if (kind < 48) {
             a = aPulse();
@@ -167,11 +272,13 @@ public final class ModelTest {
         StringBuilder text = new StringBuilder();
         int rows = random.nextInt(4);
         for (int i = 0; i < rows; i++) {
-            text.append(random.nextInt(4) == 0 ? " " : "").append(random.nextInt(4) == 0 ? "r" : "p" + (1 + random.nextInt(model.look(0))));
+            text.append(random.nextInt(4) == 0 ? " " : "");
+            text.append(random.nextInt(4) == 0 ? "r" : "p" + (1 + random.nextInt(model.look(0))));
             text.append(random.nextInt(4) == 0 ? "  = " : "=");
             int numbers = random.nextInt(9) == 0 ? 23 + random.nextInt(3) : 1 + random.nextInt(4);
             for (int k = 0; k < numbers; k++) {
-                text.append(k > 0 ? " " : "").append(random.nextInt(8) == 0 ? "0" : "").append(random.nextInt(model.look(2) + (random.nextInt(9) == 0 ? 2 : 0)));
+                text.append(k > 0 ? " " : "").append(random.nextInt(8) == 0 ? "0" : "");
+                text.append(random.nextInt(model.look(2) + (random.nextInt(9) == 0 ? 2 : 0)));
             }
             text.append(random.nextInt(4) == 0 ? " ;" : ";");
         }

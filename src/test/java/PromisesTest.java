@@ -26,6 +26,8 @@ public final class PromisesTest {
         fault();
         lay();
         layRefuses();
+        layFive();
+        layGreat();
         order();
         find();
         phase();
@@ -43,6 +45,7 @@ public final class PromisesTest {
         fewest();
         cogs();
         cogsOfMany();
+        twelfths();
         power();
         would();
         shareAndPart();
@@ -319,6 +322,8 @@ public final class PromisesTest {
         x.step(1, 2, 7);
         x.step(3, 2, 11);
         x.follow(false);
+        due("PHASE ahead of it", x.phase(1, 1), 4);
+        due("SUM ahead of it", x.early(1, 5), 1);
         due("swap(0, 2)", x.swap(0, 2), true);
         due("LENGTH 0", x.look(30), 3);
         due("LENGTH 2", x.look(32), 5);
@@ -534,10 +539,6 @@ public final class PromisesTest {
         x.step(0, 3, 5);
         x.step(3, 0, 5);
         x.follow(false);
-        x.gradient(0, 1);
-        x.gradient(2, 1);
-        x.gradient(0, 0);
-        x.gradient(2, 0);
         due("lay(0)", x.lay(0), 6);
         int[] whats = {4, 9, 11, 30, 31, 32, 33, 40, 5};
         int[] looks = {6, 1, 1, 3, 2, 1, 1, 1, 1};
@@ -582,6 +583,73 @@ public final class PromisesTest {
         due("CHIEF", x.wish(40, true), true);
         due("some FEWEST", x.fewest(10) > 1, true);
         due("laid as many", x.lay(0), x.fewest(10));
+    }
+
+    /** Five PULSES, T 6, all FREE but some: halves at PULSE 0 and thirds at all others are the least. */
+    private static void layFive() {
+        PathCycle x = new PathCycle();
+        x.turn(6);
+        x.pulses(5, 3);
+        freeEvery(x);
+        x.wish(x.find(0, 0, 0, 0), true);
+        for (int to = 1; to < 5; to++) {
+            dueAsked(x, 3, 0, to);
+            for (int from = 0; from < to; from++) {
+                dueAsked(x, 2, from, to);
+            }
+        }
+        due("FEWEST of five", x.fewest(10), 162);
+        int[] is = {2, 3, 3, 3, 3};
+        for (int k = 0; k < 5; k++) {
+            due("FEWEST of five: N " + k, x.fewest(k), is[k]);
+        }
+        x.counter(0, 4);
+        due("five COUNTERS", x.lay(0), NONE);
+        due("five COUNTERS: nothing is done", x.look(4), 4);
+        due("five COUNTERS: T by SCANS", x.share(4), Float.floatToIntBits(1.5f));
+    }
+
+    /** The PATH with this ORDER behind the PULSES from .. to less 1, 0 behind the others, is not FREE any more. */
+    private static void dueAsked(PathCycle x, int order, int from, int to) {
+        int[] orders = new int[4];
+        for (int k = from; k < to; k++) {
+            orders[k] = order;
+        }
+        due("not FREE", x.free(x.find(orders[0], orders[1], orders[2], orders[3]), false), true);
+    }
+
+    private static void freeEvery(PathCycle x) {
+        for (int order = -x.look(1); order <= x.look(1); order++) {
+            x.freeAll(0, order);
+        }
+    }
+
+    private static void layGreat() {
+        PathCycle x = new PathCycle();
+        x.turn(8);
+        x.pulses(4, 3);
+        freeEvery(x);
+        x.wish(x.find(-3, -3, -3, 0), true);
+        for (int from = 0; from < 3; from++) {
+            for (int to = from + 1; to < 4; to++) {
+                int[] orders = {-3, -3, -3};
+                for (int k = from; k < to; k++) {
+                    orders[k] = 1;
+                }
+                due("not FREE", x.free(x.find(orders[0], orders[1], orders[2], 0), false), true);
+            }
+        }
+        due("512 SCANS", x.lay(0), 512);
+        due("three COUNTERS", x.look(32), 8);
+        due("GOOD", x.look(9), 1);
+        due("a half is enough for those that are left", x.spare(1), 2);
+        x.pulses(5, 1);
+        x.turn(24);
+        x.wish(x.find(0, 0, 0, 0), true);
+        int scans = x.fewest(10);
+        due("four COUNTERS", x.lay(0), scans);
+        due("the fourth one", x.look(33) > 1, true);
+        due("four COUNTERS: GOOD", x.look(9), 1);
     }
 
     private static void order() {
@@ -701,6 +769,14 @@ public final class PromisesTest {
         x.counter(0, 6);
         due("turns that are nothing without a common step", x.path(x.find(1, 1, 0, 0), 0), 0);
         due("the same ones twice over", x.path(x.find(2, 2, 0, 0), 0), 1);
+        for (int t = 2; t <= 12; t++) {
+            x.turn(t);
+            x.counter(0, t);
+            x.step(0, 0, 1);
+            due("once round, T " + t, x.path(x.find(1, 1, 0, 0), 0), 0);
+            x.counter(0, t - 1);
+            due("not all round, T " + t, x.path(x.find(1, 1, 0, 0), 0) > 0, true);
+        }
     }
 
     private static void leak() {
@@ -752,6 +828,17 @@ public final class PromisesTest {
         due("CHIEF by none", x.stopped(4), 0);
         x.step(1, 1, 8);
         due("by a third", x.stopped(1), 1 + 2 + 8);
+        x.counter(2, 5);
+        x.turn(10);
+        x.counter(2, 5);
+        x.step(0, 2, 2);
+        due("by PULSE 0, less CHIEF's 0", x.stopped(0), 4);
+        due("by PULSE 0: CHANGE 0", x.stopped(3), 0);
+        x.step(2, 2, 8);
+        due("by PULSE 2, too: it does just as much", x.stopped(0), 4);
+        x.turn(24);
+        x.counter(0, 4);
+        x.step(1, 0, 6);
         x.follow(false);
         x.step(3, 0, 6);
         due("by the RECEIVER", x.stopped(0), 1);
@@ -793,6 +880,19 @@ public final class PromisesTest {
         due("spare(1) at 504 SCANS", x.spare(1), 2);
         x.gradient(0, 1);
         due("WISHED one is GONE", x.spare(1), NONE);
+        x.pulses(2, 1);
+        x.wish(0, true);
+        x.free(2, true);
+        x.step(0, 3, 2);
+        due("spare of a twelfth", x.spare(3), 12);
+        x.step(0, 3, 1);
+        due("spare of a 24th", x.spare(3), NONE);
+        x.step(0, 3, 3);
+        x.counter(0, 8);
+        x.counter(1, 8);
+        due("spare to 512 SCANS", x.spare(3), 8);
+        x.counter(1, 9);
+        due("spare to 576 SCANS", x.spare(3), NONE);
     }
 
     private static void soonest() {
@@ -822,12 +922,23 @@ public final class PromisesTest {
         }
         due("GOOD", x.look(9), 1);
         due("more than 200 PATHS", x.soonest(), NONE);
-        x.pulses(4, 2);
+        x.pulses(5, 2);
+        x.kind(4, 2);
+        x.kind(3, 2);
+        due("PATHS", x.look(3), 200);
         x.wish(5, true);
-        for (int o = -2; o <= 2; o++) {
-            x.freeAll(0, o);
-        }
-        due("125 PATHS", x.soonest(), 1);
+        freeEvery(x);
+        due("200 PATHS", x.soonest(), 1);
+        due("200 PATHS: COGS", x.cogs(10), 1);
+        x.kind(0, 2);
+        x.kind(1, 2);
+        x.kind(3, 0);
+        x.kind(4, 0);
+        due("PATHS", x.look(3), 225);
+        x.wish(5, true);
+        freeEvery(x);
+        due("225 PATHS", x.soonest(), NONE);
+        due("225 PATHS: COGS", x.cogs(10), NONE);
     }
 
     private static void lost() {
@@ -976,6 +1087,29 @@ public final class PromisesTest {
         due("147 PATHS: COGS", x.cogs(10), 1);
     }
 
+    /** T 12; four PATHS that PULSE 1 alone can stop at once: by twelfths. */
+    private static void twelfths() {
+        PathCycle x = new PathCycle();
+        x.turn(12);
+        x.pulses(3, 3);
+        freeEvery(x);
+        x.wish(x.find(3, -3, 0, 0), true);
+        int[][] asked = {{-3, -3}, {3, 3}, {-1, -3}, {3, 1}};
+        for (int[] orders : asked) {
+            x.free(x.find(orders[0], orders[1], 0, 0), false);
+        }
+        int[] is = {1, 12, 1};
+        int[] w = {0, 1, 0};
+        for (int k = 0; k < 3; k++) {
+            due("twelfths: fewest(" + k + ")", x.fewest(k), is[k]);
+            due("twelfths: cogs(" + k + ")", x.cogs(k), w[k]);
+        }
+        due("twelfths: fewest(10)", x.fewest(10), 12);
+        due("twelfths: cogs(10)", x.cogs(10), 12);
+        due("twelfths laid", x.lay(0), 12);
+        due("twelfths: GOOD", x.look(9), 1);
+    }
+
     private static void power() {
         int[] turns = {2, 3, 4, 6};
         int[] powers = {1, 1, 8, 13};
@@ -1100,7 +1234,6 @@ public final class PromisesTest {
         x.wish(0, true);
         x.free(1, true);
         due("taken", x.image(true), true);
-        int changed = x.look(2);
         x.pulses(3, 1);
         x.turn(24);
         x.follow(true);
@@ -1109,7 +1242,7 @@ public final class PromisesTest {
         for (int again = 0; again < 2; again++) {
             due("gone back", x.image(false), true);
             int[] whats = {0, 1, 2, 3, 4, 5, 6, 10, 11, 12, 20, 21, 31, 41, 50, 22};
-            int[] looks = {2, 2, changed, 3, 4, 1, 1, 0, 0, 20, 0, 2, 4, 2, 4, -100};
+            int[] looks = {2, 2, 10, 3, 4, 1, 1, 0, 0, 20, 0, 2, 4, 2, 4, -100};
             for (int i = 0; i < whats.length; i++) {
                 due("gone back: look(" + whats[i] + ")", x.look(whats[i]), looks[i]);
             }
@@ -1134,8 +1267,6 @@ public final class PromisesTest {
         x.wish(4, true);
         x.wish(1, true);
         x.weight(0, 1, 3);
-        x.gradient(2, -1);
-        x.gradient(2, 0);
         int[] looks = {3, 1, 24, 9, 4, 2, 0, 1, 1, 0, 1, 1, 0, 1, 3};
         for (int what = 0; what < looks.length; what++) {
             due("look(" + what + ")", x.look(what), looks[what]);
