@@ -279,6 +279,12 @@ public final class PromisesTest {
             due("step(" + w[0] + ", " + w[1] + ", " + w[2] + ")", x.step(w[0], w[1], w[2]), false);
         }
         due("STEP stays", x.phase(0, 3), 23);
+        due("SUM ahead of it", x.path(0, 0), 1);
+        x.step(0, 2, 6);
+        x.step(3, 0, 0);
+        due("SUM behind a STEP", x.path(0, 0), 0);
+        x.step(0, 2, 0);
+        due("SUM without STEPS", x.path(0, 0), 2);
     }
 
     private static void gradient() {
@@ -335,6 +341,15 @@ public final class PromisesTest {
             due("swap(" + w[0] + ", " + w[1] + ")", x.swap(w[0], w[1]), false);
         }
         due("LENGTH 0 stays", x.look(30), 3);
+        x.pulses(2, 1);
+        x.step(0, 1, 5);
+        x.step(2, 3, 9);
+        due("swap(1, 3)", x.swap(1, 3), true);
+        x.counter(1, 2);
+        x.counter(3, 2);
+        due("STEP 3 of PULSE 0", x.phase(0, 2), 5);
+        due("STEP 1 of PULSE 0", x.phase(0, 1), 0);
+        due("STEP 1 of the RECEIVER", x.phase(2, 1), 9);
     }
 
     private static void follow() {
@@ -412,6 +427,10 @@ public final class PromisesTest {
         due("freeAll(2, -1)", x.freeAll(2, -1), 4);
         due("freeAll(2, 1): no PATH has it", x.freeAll(2, 1), 0);
         due("look(6)", x.look(6), 8);
+        x.free(0, false);
+        due("FEWEST ahead of it", x.fewest(10), 2);
+        due("freeAll(0, -1)", x.freeAll(0, -1), 1);
+        due("FEWEST behind it", x.fewest(10), 1);
         int[][] wrong = {{-1, 0}, {3, 0}, {0, 2}, {0, -2}, {LOW, 0}, {HIGH, 0}, {0, LOW}, {0, HIGH}};
         for (int[] w : wrong) {
             due("freeAll(" + w[0] + ", " + w[1] + ")", x.freeAll(w[0], w[1]), NONE);
@@ -749,6 +768,7 @@ public final class PromisesTest {
         x.gradient(1, 3);
         due("SPOILED", x.path(0, 6), 1);
         due("GONE", x.path(0, 8), 1);
+        due("not GONE", x.path(1, 8), 0);
         due("GONE, but not without SUM", x.path(0, 0), 1);
         due("no LEAK: GONE", x.path(0, 3), 0);
         due("CHANGES of 1, 0, -1", x.path(7, 4), 3);
