@@ -70,27 +70,15 @@ public final class PromisesTest {
         return x;
     }
 
-    /** Leaves just this text on THE TAPE, if it was empty. */
-    private static void tape(PathCycle x, String text) {
-        for (int i = 0; i < text.length(); i += 20) {
-            int[] five = new int[5];
-            for (int k = 0; k < 20; k++) {
-                five[k / 4] = five[k / 4] << 8 | (i + k < text.length() ? text.charAt(i + k) : 0);
-            }
-            x.feed(five[0], five[1], five[2], five[3], five[4]);
-        }
-        due("end", x.end(text.length()), true);
-    }
-
     private static void dueRows(PathCycle x, String text, int rows) {
-        tape(x, text);
+        Tell.tape(x, text);
         due("rows of " + text, x.rows(), rows);
         due("fault(0) of " + text, x.fault(0), 0);
         due("fault(1) of " + text, x.fault(1), NONE);
     }
 
     private static void dueFault(PathCycle x, String text, int fault, int place) {
-        tape(x, text);
+        Tell.tape(x, text);
         due("rows of " + text, x.rows(), NONE);
         due("fault(0) of " + text, x.fault(0), fault);
         due("fault(1) of " + text, x.fault(1), place);
@@ -535,7 +523,7 @@ public final class PromisesTest {
 
     private static void fault() {
         PathCycle x = new PathCycle();
-        tape(x, "p1=1 q");
+        Tell.tape(x, "p1=1 q");
         due("fault(0) ahead of rows()", x.fault(0), 0);
         x.rows();
         due("fault(0)", x.fault(0), 1);
@@ -609,7 +597,7 @@ public final class PromisesTest {
         PathCycle x = new PathCycle();
         x.turn(6);
         x.pulses(5, 3);
-        freeEvery(x);
+        Tell.freeEvery(x);
         x.wish(x.find(0, 0, 0, 0), true);
         for (int to = 1; to < 5; to++) {
             dueAsked(x, 3, 0, to);
@@ -637,17 +625,11 @@ public final class PromisesTest {
         due("not FREE", x.free(x.find(orders[0], orders[1], orders[2], orders[3]), false), true);
     }
 
-    private static void freeEvery(PathCycle x) {
-        for (int order = -x.look(1); order <= x.look(1); order++) {
-            x.freeAll(0, order);
-        }
-    }
-
     private static void layGreat() {
         PathCycle x = new PathCycle();
         x.turn(8);
         x.pulses(4, 3);
-        freeEvery(x);
+        Tell.freeEvery(x);
         x.wish(x.find(-3, -3, -3, 0), true);
         for (int from = 0; from < 3; from++) {
             for (int to = from + 1; to < 4; to++) {
@@ -947,7 +929,7 @@ public final class PromisesTest {
         x.kind(3, 2);
         due("PATHS", x.look(3), 200);
         x.wish(5, true);
-        freeEvery(x);
+        Tell.freeEvery(x);
         due("200 PATHS", x.soonest(), 1);
         due("200 PATHS: COGS", x.cogs(10), 1);
         x.kind(0, 2);
@@ -956,7 +938,7 @@ public final class PromisesTest {
         x.kind(4, 0);
         due("PATHS", x.look(3), 225);
         x.wish(5, true);
-        freeEvery(x);
+        Tell.freeEvery(x);
         due("225 PATHS", x.soonest(), NONE);
         due("225 PATHS: COGS", x.cogs(10), NONE);
     }
@@ -1112,7 +1094,7 @@ public final class PromisesTest {
         PathCycle x = new PathCycle();
         x.turn(12);
         x.pulses(3, 3);
-        freeEvery(x);
+        Tell.freeEvery(x);
         x.wish(x.find(3, -3, 0, 0), true);
         int[][] asked = {{-3, -3}, {3, 3}, {-1, -3}, {3, 1}};
         for (int[] orders : asked) {
