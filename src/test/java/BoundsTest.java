@@ -26,6 +26,7 @@ public final class BoundsTest {
         weightRefused();
         swapRefused();
         swapTakesAllSteps();
+        swapOfTwoAlike();
         followSoAlready();
         wishSoAlready();
         wishAndFreeExclude();
@@ -51,6 +52,7 @@ public final class BoundsTest {
         findAsksAllButTheLast();
         phaseRefused();
         residueRefused();
+        residueOfTheLast();
         manyRefused();
         manyAddUpToScans();
         pathRefused();
@@ -148,7 +150,7 @@ public final class BoundsTest {
         Tell.rows(x, "p1=7 8 9 10 11;r=3 2;");
         Tell.rows(x, "p1=7 99;");
         Tell.tape(x, "p2=11;");
-        return x;
+        return Whole.asked(x);
     }
 
     // 1
@@ -314,6 +316,22 @@ public final class BoundsTest {
         }
     }
 
+    /** Two that are alike are not one. */
+    private static void swapOfTwoAlike() {
+        refused(PathCycle::new, "swap(0, 1) of two alike", x -> bit(x.swap(0, 1)), 1);
+        refusedOfRich("swap(1, 1)", x -> bit(x.swap(1, 1)), 0);
+        Supplier<PathCycle> alike = () -> {
+            PathCycle x = rich();
+            x.counter(2, 4);
+            for (int row = 0; row <= 3; row++) {
+                x.step(row, 0, 5 + row);
+                x.step(row, 2, 5 + row);
+            }
+            return x;
+        };
+        refused(alike, "swap(2, 0) of two alike", x -> bit(x.swap(2, 0)), 1);
+    }
+
     private static void exchange(int[] row, int a, int b) {
         int kept = row[a];
         row[a] = row[b];
@@ -328,6 +346,7 @@ public final class BoundsTest {
         due("follow(true)", x.follow(true), true);
         due("follow(true) again", x.follow(true), false);
         due("it FOLLOWS", x.look(11), 1);
+        due("it does not", rich().look(11), 0);
         String back = Whole.changeBy(BoundsTest::rich, y -> bit(y.follow(true)) + bit(y.follow(false)));
         due("and back: " + back, back == null, true);
     }
@@ -620,7 +639,7 @@ public final class BoundsTest {
         Tell.steps(x, 1, 2, 3, 4, 5, 6, 7, 8, 9, 10, 11, 1, 2, 3, 4, 5);
         Tell.rows(x, "p1=7 8 9 10 11;r=3 2;");
         x.follow(false);
-        return x;
+        return Whole.asked(x);
     }
 
     /** Five PULSES, T as told, all FREE but CHIEF, which has 0 behind all but the last, and those told. */
@@ -848,6 +867,21 @@ public final class BoundsTest {
         due("residue(20, 47)", rich().residue(20, 47), Math.floorMod(last, 12));
     }
 
+    /** The last of all that can be, at the last SCAN that can be. */
+    private static void residueOfTheLast() {
+        PathCycle x = new PathCycle();
+        x.pulses(5, 3);
+        Tell.lengths(x, 8, 8, 8);
+        Tell.steps(x, 1);
+        for (int again = 0; again < 2; again++) {
+            due("residue(2400, 511): 3 times 7", x.residue(2400, 511), 21);
+            due("many(2400, 21)", x.many(2400, 21), 64);
+            due("early(2400, 512)", x.early(2400, 512), 0);
+        }
+        due("residue(2401, 511)", x.residue(2401, 511), NONE);
+        due("residue(2400, 512)", x.residue(2400, 512), NONE);
+    }
+
     private static void manyRefused() {
         int[][] wrong = {{-1, 0}, {21, 0}, {LOW, 0}, {HIGH, 0}, {0, -1}, {0, 12}, {0, LOW}, {0, HIGH}};
         for (int[] w : wrong) {
@@ -956,6 +990,25 @@ public final class BoundsTest {
         due("2401: the first with -4", x.worst(0, 0), 6);
         due("2401: the last", x.worst(2400, 0), 2399);
         due("2401: one more", x.worst(2401, 0), NONE);
+        x.pulses(2, 3);
+        for (int change = 0; change <= 3; change++) {
+            x.weight(0, change, change + 1);
+            x.weight(1, change, 1);
+        }
+        for (int path = 0; path < 3; path++) {
+            x.free(path, true);
+        }
+        for (int i = 0; i < 4; i++) {
+            due("four that differ: number", x.worst(i, 0), 6 - i);
+            due("four that differ: WEIGHT", x.worst(i, 1), 4 - i);
+        }
+        due("four that differ: one more", x.worst(4, 0), NONE);
+        x.freeAll(0, 0);
+        x.freeAll(0, 2);
+        x.freeAll(0, 3);
+        due("one LEAK: number", x.worst(0, 0), 4);
+        due("one LEAK: WEIGHT", x.worst(0, 1), 2);
+        due("one LEAK: one more", x.worst(1, 0), NONE);
     }
 
     private static void stoppedRefused() {
@@ -1026,6 +1079,10 @@ public final class BoundsTest {
         due("there is no room but for 1", x.spare(3), NONE);
         x.free(1, true);
         due("1 is enough", x.spare(3), 1);
+        x.pulses(5, 3);
+        Tell.freeEvery(x);
+        x.wish(2400, true);
+        due("2401 PATHS", x.spare(3), 1);
     }
 
     /** "The least number of first SCANS": the first one, the last one. */

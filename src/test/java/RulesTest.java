@@ -23,12 +23,81 @@ public final class RulesTest {
             + "int share(int); int soonest(); int spare(int); int stopped(int); int until(int, int); "
             + "int worst(int, int); int would(int, int, int, int, int); long part(int); long power(int)";
 
+    private static final PathCycle[] TOLD = new PathCycle[4];
+    private static int asked = 0;
+
     public static void main(String[] args) throws IOException {
         face();
         classes();
         text();
         room();
+        nothingIsThrown();
         SEEN.end("RulesTest");
+    }
+
+    /** No call throws, whatever its arguments are and whatever was told. */
+    private static void nothingIsThrown() {
+        int[] few = {Integer.MIN_VALUE, -1, 0, 1, Integer.MAX_VALUE};
+        int[] some = {Integer.MIN_VALUE, Integer.MIN_VALUE + 1, -100, -10, -4, -2, -1, 0, 1, 2, 3, 4, 5, 6, 7, 8, 9, 10, 11,
+            12, 13, 20, 23, 24, 25, 40, 48, 49, 59, 60, 200, 400, 401, 512, 513, 2400, 2401, 65536, Integer.MAX_VALUE - 1,
+            Integer.MAX_VALUE};
+        for (Method m : PathCycle.class.getDeclaredMethods()) {
+            if (Modifier.isPublic(m.getModifiers())) {
+                int[] values = m.getParameterCount() > 3 ? few : some;
+                Object[] arguments = new Object[m.getParameterCount()];
+                for (int state = 0; state < 4; state++) {
+                    callWithAll(m, arguments, 0, values, state);
+                }
+            }
+        }
+    }
+
+    private static void callWithAll(Method m, Object[] arguments, int at, int[] values, int state) {
+        if (at == arguments.length) {
+            try {
+                m.invoke(told(state), arguments);
+            } catch (ReflectiveOperationException e) {
+                SEEN.due(m.getName() + Arrays.toString(arguments) + " in state " + state + " throws " + e.getCause(), 1, 0);
+            }
+        } else if (m.getParameterTypes()[at] == boolean.class) {
+            for (boolean is : new boolean[] {false, true}) {
+                arguments[at] = is;
+                callWithAll(m, arguments, at + 1, values, state);
+            }
+        } else {
+            for (int value : values) {
+                arguments[at] = value;
+                callWithAll(m, arguments, at + 1, values, state);
+            }
+        }
+    }
+
+    /** New; without PATHS; small and full; some of all. A new one in time, for 512 calls are the most. */
+    private static PathCycle told(int state) {
+        if (asked++ % 400 == 0) {
+            Arrays.fill(TOLD, null);
+        }
+        if (TOLD[state] == null) {
+            PathCycle x = new PathCycle();
+            TOLD[state] = x;
+            if (state == 1) {
+                x.pulses(1, 1);
+                x.kind(0, 1);
+            } else if (state == 2) {
+                x.pulses(4, 1);
+                x.turn(6);
+                x.wish(3, true);
+                Tell.lengths(x, 8, 8, 8);
+                Tell.tape(x, " ".repeat(400));
+            } else if (state == 3) {
+                x.image(true);
+                x.wish(7, true);
+                x.lay(0);
+                Tell.rows(x, "p1=1 2;q");
+                Tell.tape(x, "p1=1;");
+            }
+        }
+        return TOLD[state];
     }
 
     private static void face() {

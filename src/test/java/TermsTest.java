@@ -45,6 +45,8 @@ public final class TermsTest {
         faultsAreTheFirstByPlace();
         residuesAreModuloT();
         vanishesExactly();
+        vanishesIfStepsCloseTheTurn();
+        vanishesWithoutACommonStep();
         wholeIsAllAlike();
         leaksAreNeitherWishedNorFreeNorGone();
         lostOnesVanishOrAreGone();
@@ -54,6 +56,7 @@ public final class TermsTest {
         fewestLeaveMultiples();
         fewestOfSeveralTheLeastFirst();
         fewestMustLeaveWishedAlone();
+        fewestLeaveAllWished();
         cogsDivideTAndAreTwelveAtMost();
         cogsOfSeveralTheLeastFirst();
         cogsAndSoonestFor200PathsAtMost();
@@ -545,7 +548,7 @@ public final class TermsTest {
         Tell.steps(x, 1, 2, 3, 4, 5, 6, 7, 8, 9, 10, 11, 1, 2, 3, 4, 5);
         Tell.rows(x, "p1=1;p2=2 3;p3=4 5;r=6 7 8;");
         x.follow(follows);
-        return x;
+        return Whole.asked(x);
     }
 
     // Terms 2
@@ -952,14 +955,38 @@ public final class TermsTest {
         due("until the half is done", x.until(once, 1), 44);
         due("one ahead of it", x.early(once, 43), 1);
         due("one behind it", x.early(once, 45), 1);
+    }
+
+    /** Steps of one COUNTER are nothing together if they end where they began, and are not at rest: for each T. */
+    private static void vanishesIfStepsCloseTheTurn() {
         for (int t = 2; t <= 48; t++) {
-            x.turn(t);
-            Tell.lengths(x, 2);
-            x.step(1, 0, t / 2);
-            due("T " + t + ": half a turn", x.path(once, 0), t % 2 == 0 ? 0 : 1);
-            Tell.lengths(x, 3);
-            x.step(1, 0, t / 3);
-            due("T " + t + ": thirds of a turn", x.path(once, 0), t % 3 == 0 ? 0 : t == 2 ? 2 : 1);
+            for (int v = 0; v < t; v++) {
+                PathCycle x = new PathCycle();
+                x.turn(t);
+                x.step(1, 0, v);
+                for (int length = 1; length <= 12; length++) {
+                    x.counter(0, length);
+                    int state = v == 0 || length == 1 ? 2 : length * v % t == 0 ? 0 : 1;
+                    due("T " + t + ": " + length + " steps of " + v, x.path(1, 0), state);
+                }
+            }
+        }
+    }
+
+    /** T is a product of three primes: sums that are nothing although no part of them is. */
+    private static void vanishesWithoutACommonStep() {
+        PathCycle x = new PathCycle();
+        int[] turns = {30, 42};
+        String[] rows = {"p2=5 6 12 18 24 25;", "p2=6 7 12 18 24 30 35 36;"};
+        String[] others = {"p2=5 6 12 18 24 26;", "p2=6 7 12 18 24 30 34 36;"};
+        for (int i = 0; i < 2; i++) {
+            x.turn(turns[i]);
+            Tell.rows(x, rows[i]);
+            x.counter(0, 6 + 2 * i);
+            due("T " + turns[i] + ": all", x.path(1, 0), 0);
+            due("T " + turns[i] + ": all but the last", x.early(1, 5 + 2 * i), 1);
+            Tell.rows(x, others[i]);
+            due("T " + turns[i] + ": one is another", x.path(1, 0), 1);
         }
     }
 
@@ -1189,6 +1216,37 @@ public final class TermsTest {
         x.weight(0, 3, 0);
         due("WISHED ones are GONE", x.fewest(10), NONE);
         due("WISHED ones are GONE: COGS", x.cogs(10), NONE);
+    }
+
+    /** "All WISHED ones must be left": N divides what they differ by, all of them. */
+    private static void fewestLeaveAllWished() {
+        int[] fewest = {3, 4, 3, NONE};
+        for (int set = 0; set < 4; set++) {
+            PathCycle x = new PathCycle();
+            x.pulses(2, 3);
+            Tell.freeEvery(x);
+            x.wish(0, true);
+            x.wish(4, (set & 1) == 1);
+            x.wish(6, (set & 2) == 2);
+            x.free(2, false);
+            int due = fewest[set];
+            due("differing by 4, 6 of set " + set + ", not by 2: FEWEST", x.fewest(10), due);
+            due("differing by 4, 6 of set " + set + ", not by 2: COGS", x.cogs(10), due);
+            x.free(2, true);
+            x.free(1, false);
+            due("differing by 4, 6 of set " + set + ", not by 1: FEWEST", x.fewest(10), 2);
+            due("differing by 4, 6 of set " + set + ", not by 1: COGS", x.cogs(10), 2);
+        }
+        PathCycle x = new PathCycle();
+        x.pulses(2, 3);
+        x.wish(6, true);
+        x.wish(4, true);
+        x.wish(2, true);
+        due("the first PATH must not be left", x.fewest(10), NONE);
+        due("the first PATH must not be left by COGS", x.cogs(10), NONE);
+        x.free(0, true);
+        due("the first PATH may be left", x.fewest(10), 2);
+        due("the first PATH may be left by COGS", x.cogs(10), 2);
     }
 
     /** "one COUNTER of L steps (L divides T; 1 .. 12)". */

@@ -37,6 +37,18 @@ final class Whole {
         return all.answers;
     }
 
+    /** Asks what may be kept once it was found out, so that what is told behind it must put it out of date. */
+    static PathCycle asked(PathCycle x) {
+        for (int what = 7; what <= 14; what++) {
+            x.look(what);
+        }
+        x.fewest(10);
+        x.cogs(10);
+        x.soonest();
+        x.residue(0, 0);
+        return x;
+    }
+
     /** The first answer that differs; null if none does. */
     static String difference(List<String> is, List<String> due) {
         for (int i = 0; i < is.size() || i < due.size(); i++) {
