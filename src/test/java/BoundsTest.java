@@ -66,6 +66,7 @@ public final class BoundsTest {
         spareWithin512Scans();
         soonestIsOneToScans();
         soonestWithoutOne();
+        fewerPathsThanBefore();
         lostRefused();
         earlyRefused();
         earlyOfTheFirstAndOfAll();
@@ -1133,6 +1134,43 @@ public final class BoundsTest {
         x.weight(1, 0, 1);
         x.weight(2, 2, 0);
         due("the other one is GONE", x.soonest(), 1);
+    }
+
+    /** What was before n was told does nothing: neither PATHS behind the last one nor PULSES that there were not. */
+    private static void fewerPathsThanBefore() {
+        String change = Whole.difference(Whole.of(() -> {
+            PathCycle x = new PathCycle();
+            x.pulses(5, 3);
+            x.wish(x.find(0, -3, -3, 0), true);
+            Whole.asked(x);
+            return good(x);
+        }), Whole.of(() -> good(new PathCycle())));
+        due("fewer PATHS than before: " + change, change == null, true);
+        String more = Whole.difference(Whole.of(() -> {
+            PathCycle x = new PathCycle();
+            x.pulses(2, 3);
+            x.wish(0, true);
+            Whole.asked(x);
+            x.pulses(3, 1);
+            x.wish(7, true);
+            return x;
+        }), Whole.of(() -> {
+            PathCycle x = new PathCycle();
+            x.wish(7, true);
+            return x;
+        }));
+        due("more PULSES than before: " + more, more == null, true);
+        due("soonest", good(new PathCycle()).soonest(), 2);
+        due("spare", good(new PathCycle()).spare(0), 2);
+    }
+
+    private static PathCycle good(PathCycle x) {
+        x.pulses(2, 1);
+        x.wish(0, true);
+        x.free(2, true);
+        x.step(0, 0, 12);
+        x.counter(0, 2);
+        return x;
     }
 
     private static void lostRefused() {
